@@ -874,9 +874,12 @@ public final class PorterDoors {
             } else if ((before == 0) != (word == Words.DOORS) || word < 0 || word > Words.ILL) {
                 fail(1, start);
             }
+            if (fault != 0) {
+                return;
+            }
             advance();
             int from = out.size;
-            switch (fault == 0 ? word : NONE) {
+            switch (word) {
                 case Words.PORTER:
                     int porter = plan.porters;
                     name();

@@ -13,6 +13,7 @@ public final class CorridorTest {
         openings();
         tooMany();
         faultStays();
+        anew();
         counts();
         letters();
         CHECK.finish();
@@ -65,6 +66,20 @@ public final class CorridorTest {
         CHECK.due("P3 no longer 16", x.end(16), false);
         CHECK.due("P4 as fed", x.corridor(), 2);
         CHECK.due("P2 open as fed", x.door(1, 0), 1);
+        cut("doors 2;open 11", 14, 1, 14);
+        cut("doors 2;walks allow", 17, 1, 17);
+        cut("doors 2;porter abcd", 17, 1, 17);
+        cut("doors 24;", 7, 1, 7);
+    }
+
+    /** What stood on the tape behind its end is no part of the text. */
+    private static void cut(String text, int end, int what, int where) {
+        PorterDoors x = new PorterDoors();
+        Check.tape(x, text);
+        x.end(end);
+        CHECK.due("P3 cut, " + text, x.corridor(), -1);
+        CHECK.due("P3 fault of what is left of " + text, x.fault(0), what);
+        CHECK.due("P3 place in what is left of " + text, x.fault(1), where);
     }
 
     private static void corridors() {
@@ -152,6 +167,10 @@ public final class CorridorTest {
         CHECK.fault("doors 2;cold min(1,2,3);", 1, 20);
         CHECK.fault("doors 2;cold (1,2);", 1, 15);
         CHECK.fault("doors 2;cold (1];", 1, 15);
+        CHECK.fault("doors 2;cold min(1,2];", 1, 20);
+        CHECK.fault("doors 2;walks [all);", 1, 18);
+        CHECK.fault("doors 2;walks [all;", 1, 18);
+        CHECK.fault("doors 2;walks all];", 1, 17);
         CHECK.fault("doors 2;cold \u00e9;", 1, 13);
         CHECK.fault("doors 2;cold numbers;", 1, 13);
         CHECK.fault("doors 2;cold by 1;", 1, 13);
@@ -186,6 +205,7 @@ public final class CorridorTest {
         CHECK.fault("doors 2;walks 1 12345;", 1, 16);
         PorterDoors x = Check.told("doors 2;cold 9999;walks 0000=0;stiff 99;ill 100;");
         CHECK.due("P4 greatest numbers", x.has(6), 99);
+        CHECK.due("P4 least numbers", Check.corridor(x, "doors 2;stiff 0;ill 0;paint 0 0;open 0;cold 0;"), 6);
     }
 
     private static void names() {
@@ -270,6 +290,37 @@ public final class CorridorTest {
         CHECK.due("P4 new order", x.order(0), 1);
         CHECK.due("P4 untired", x.porter(0, 0), 0);
         CHECK.due("P33 nothing to undo", x.undo(), false);
+    }
+
+    /** Nothing of an earlier corridor, whole or with a fault, is left in the next one. */
+    private static void anew() {
+        String rich = "doors 24;stiff 1;ill 100;walks who>0;cold 9;open 23;paint 3 3;paint 0 3;"
+                + "porter a turns not all;porter b turns number=0;porter c turns colour=3;";
+        PorterDoors x = new PorterDoors();
+        for (int k = 0; k < 120; k++) {
+            CHECK.due("P4 rich " + k, Check.corridor(x, k % 3 == 2 ? rich + "?" : rich), k % 3 == 2 ? -1 : 11);
+        }
+        CHECK.due("P13 rich", x.cold(1), 24 * 9);
+        CHECK.due("P17 rich", x.sends(1, 1), 2);
+        CHECK.due("P4 bare", Check.corridor(x, "doors 4;porter a turns not all;"), 2);
+        CHECK.due("P4 no stiff", x.has(6), 0);
+        CHECK.due("P4 none open", x.has(3), 0);
+        CHECK.due("P4 no paint", x.door(3, 1) + x.door(0, 1), 0);
+        CHECK.due("P4 walks is all", x.porter(0, 2), 1);
+        CHECK.due("P4 nobody is ill", x.chance(1), 0);
+        CHECK.due("P4 cold is open", x.has(5), 0);
+        CHECK.due("P17 one porter alone", x.sends(1, 1), -1);
+        CHECK.due("P19 one porter alone", x.alone(0), -1);
+        CHECK.due("P20 one porter alone", x.widest(0), 0);
+        CHECK.due("P18 one porter alone", x.alike(), 2);
+        CHECK.due("P35 one porter alone", Check.ask(x, "total by 1+by 2"), 0);
+        CHECK.due("P4 ten porters, walks, cold", Check.corridor(x, porters(9)
+                + "porter k turns number=1;walks who>8;cold 7;"), 13);
+        CHECK.due("P10 the tenth", x.order(9), 2);
+        CHECK.due("P9 the first", x.porter(0, 2), 0);
+        CHECK.due("P9 the tenth", x.porter(9, 2), 1);
+        CHECK.due("P12 the tenth", x.later(1), 2);
+        CHECK.due("P13 the cold", x.cold(1), 14);
     }
 
     private static void counts() {

@@ -22,6 +22,7 @@ public final class HallTest {
         chance();
         undone();
         undoneKept();
+        aheadBehindActs();
         seeds();
         CHECK.finish();
     }
@@ -258,8 +259,9 @@ public final class HallTest {
     }
 
     private static void oiled() {
-        PorterDoors x = Check.told("doors 3;stiff 1;");
+        PorterDoors x = Check.told("doors 3;stiff 1;porter a turns not all;");
         CHECK.due("P29 not turned", x.oil(0), false);
+        CHECK.due("P29 another, not turned", x.oil(1), false);
         x.turn(0);
         CHECK.due("P29 jammed", x.door(0, 3), 1);
         CHECK.due("P29 oiled", x.oil(0), true);
@@ -269,8 +271,12 @@ public final class HallTest {
         CHECK.due("P29 not twice", x.oil(0), false);
         CHECK.due("P29 none such", x.oil(3), false);
         CHECK.due("P29 below 0", x.oil(-1), false);
-        CHECK.due("P39 refused", x.status(2), 4);
+        CHECK.due("P39 refused", x.status(2), 5);
         CHECK.due("P29 acts", x.has(9), 2);
+        x.turn(2);
+        CHECK.due("P29 another", x.oil(2), true);
+        x.nights(1);
+        CHECK.due("P29 another, not turned, kept or not", x.oil(1), false);
     }
 
     private static void painted() {
@@ -464,6 +470,38 @@ public final class HallTest {
         x.turn(0);
         x.undo();
         CHECK.due("P33 what is seen is no act", x.has(8), 1);
+    }
+
+    /** Each act is seen by all that was asked of the nights ahead and of the sets before. */
+    private static void aheadBehindActs() {
+        PorterDoors x = Check.told("doors 3;porter a turns number=0 or colour=1 or night=1;stiff 2;ill 100;");
+        aheadIs(x, "at first", 1, 6, 1);
+        x.send(0);
+        aheadIs(x, "sent", 0, 6, 1);
+        x.send(0);
+        aheadIs(x, "sent again", 0, 6, 1);
+        x.oil(0);
+        aheadIs(x, "oiled", 1, 6, 1);
+        x.turn(2);
+        aheadIs(x, "turned", 5, 2, 1);
+        x.paint(2, 1);
+        aheadIs(x, "painted", 1, 2, 5);
+        x.chance(1);
+        aheadIs(x, "ill", 3, 2, 7);
+        x.undo();
+        aheadIs(x, "undone", 1, 2, 5);
+        x.nights(1);
+        aheadIs(x, "a night", 2, 2, 7);
+        x.undo();
+        x.undo();
+        aheadIs(x, "undone twice", 5, 2, 1);
+    }
+
+    private static void aheadIs(PorterDoors x, String when, int one, int two, int order) {
+        CHECK.due("P12 one ahead, " + when, x.later(1), one);
+        CHECK.due("P12 two ahead, " + when, x.later(2), two);
+        CHECK.due("P16 his set, " + when, x.changes(1), order);
+        CHECK.due("P10 his order, " + when, x.order(0), order);
     }
 
     private static void seeds() {

@@ -60,6 +60,8 @@ public final class QuestionTest {
         is(x, "often by 0=by 1", 1);
         is(x, "total by 2", 0);
         is(x, "total by 3", 0);
+        is(x, "total by 9", 0);
+        is(x, "total by 10", 0);
         is(x, "total by 9999", 0);
         is(x, "total by (0-1)", 0);
         is(x, "total by open", 4);
@@ -88,6 +90,9 @@ public final class QuestionTest {
         is(x, "total near 24", 0);
         is(x, "most number", 23);
         is(x, "last all", 23);
+        is(x, "total " + "1+".repeat(796) + "1", 797 * 24);
+        is(x, "total " + "1+1*".repeat(398) + "1", 399 * 24);
+        is(x, "often " + "1=1 and ".repeat(198) + "all", 24);
     }
 
     private static void no(PorterDoors x, String question, int what, int where) {

@@ -123,6 +123,7 @@ public final class SetsTest {
         z.send(1);
         CHECK.due("P20 nobody", z.widest(0), 0);
         CHECK.due("P20 all", z.widest(1), 3);
+        CHECK.due("P20 the only one", Check.told("doors 3;porter a turns all;").widest(0), 1);
         CHECK.due("P20 nobody there", Check.told("doors 2;open 1;").widest(1), 1);
         CHECK.due("P20 without a corridor", new PorterDoors().widest(1), -1);
     }
@@ -269,6 +270,7 @@ public final class SetsTest {
         PorterDoors y = Check.told("doors 4;porter a turns number=3;");
         CHECK.due("P26 the one of his order", y.tells(0), 3);
         CHECK.due("P26 one is left", y.tells(1), 1);
+        CHECK.due("P26 open at first", Check.told("doors 4;porter a turns number=3;open 3;").tells(1), 1);
         PorterDoors z = Check.told("doors 4;");
         CHECK.due("P26 nobody", z.tells(0), 0);
         CHECK.due("P26 the one fit", z.tells(1), 1);
