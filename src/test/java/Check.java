@@ -1,4 +1,7 @@
 import java.nio.charset.StandardCharsets;
+import java.util.List;
+import java.util.function.Supplier;
+import java.util.function.ToLongFunction;
 
 /** What the tests share: answers held against those that are due, texts put on the tape. */
 final class Check {
@@ -61,6 +64,49 @@ final class Check {
         return x;
     }
 
+    static boolean see(PorterDoors x, int... bytes) {
+        tape(x, bytes);
+        return x.see() >= 0;
+    }
+
+    /** The bytes with their check behind them. */
+    static int[] withCheck(int... bytes) {
+        int[] all = java.util.Arrays.copyOf(bytes, bytes.length + 1);
+        int check = 193;
+        for (int b : bytes) {
+            check = (3 * check + b) % 251;
+        }
+        all[bytes.length] = check;
+        return all;
+    }
+
+    /** The image of all as it stands, with other bytes at some places: place, byte, place, byte. */
+    static int[] imageWith(PorterDoors x, int... changes) {
+        int[] bytes = new int[x.image() - 1];
+        for (int k = 0; k < bytes.length; k++) {
+            bytes[k] = x.octet(k);
+        }
+        for (int k = 0; k + 1 < changes.length; k += 2) {
+            bytes[changes[k]] = changes[k + 1];
+        }
+        return withCheck(bytes);
+    }
+
+    /** All becomes as an image with other bytes at some places tells it. */
+    static boolean become(PorterDoors x, int... changes) {
+        tape(x, imageWith(x, changes));
+        return x.on();
+    }
+
+    /** A corridor in this night; for the rest all is as at first. */
+    static PorterDoors atNight(String text, int night) {
+        PorterDoors x = told(text);
+        if (!become(x, 0, night / 256, 1, night % 256)) {
+            throw new IllegalStateException("no night " + night + ": " + text);
+        }
+        return x;
+    }
+
     static long ask(PorterDoors x, String text) {
         tape(x, text);
         return x.ask();
@@ -73,6 +119,48 @@ final class Check {
         due("fault of " + text, x.fault(0), what);
         due("its place of " + text, x.fault(1), where);
         due("refused, " + text, x.status(1), 1);
+    }
+
+    /** A text is no corridor: its fault is due, where the sign | stands (it is no part of it). */
+    void marked(String text, int what) {
+        fault(text.replace("|", ""), what, text.indexOf('|'));
+    }
+
+    /** A text is a corridor of so many statements. */
+    PorterDoors taken(String text, int statements) {
+        PorterDoors x = new PorterDoors();
+        due("corridor " + text, corridor(x, text), statements);
+        due("fault of " + text, x.fault(0), 0);
+        due("no place of " + text, x.fault(1), -1);
+        due("not refused, " + text, x.status(1), 0);
+        return x;
+    }
+
+    /**
+     * A call gives the answer that is due; this count of status() rises by one (-1: none does), and
+     * whatever else can be asked of the object, now and behind some acts, is as it is without it.
+     */
+    void stays(String name, Supplier<PorterDoors> made, ToLongFunction<PorterDoors> call, long answer,
+            int kind) {
+        PorterDoors x = made.get();
+        PorterDoors twin = made.get();
+        due(name, call.applyAsLong(x), answer);
+        for (int k = 0; k <= 5; k++) {
+            due(name + ", status " + k, x.status(k), twin.status(k) + (k == kind ? 1 : 0));
+        }
+        alike(name, View.of(x), View.of(twin));
+        due(name + ", the tape", x.feed(0, 0, 0, 0, 0), twin.feed(0, 0, 0, 0, 0));
+        due(name + ", undone", x.undo(), twin.undo());
+        due(name + ", nights by the seed", x.chance(3), twin.chance(3));
+        alike(name + ", and then", View.of(x), View.of(twin));
+    }
+
+    private void alike(String name, List<String> got, List<String> due) {
+        due(name + ": how much there is to see", got.size(), due.size());
+        for (int k = 0; k < Math.min(got.size(), due.size()); k++) {
+            due(name + ": " + got.get(k) + ", without it " + due.get(k),
+                    got.get(k).equals(due.get(k)), true);
+        }
     }
 
     void finish() {

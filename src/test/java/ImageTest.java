@@ -61,16 +61,6 @@ public final class ImageTest {
         bytesAre(x, due);
     }
 
-    private static int[] withCheck(int... bytes) {
-        int[] all = java.util.Arrays.copyOf(bytes, bytes.length + 1);
-        int check = 193;
-        for (int b : bytes) {
-            check = (3 * check + b) % 251;
-        }
-        all[bytes.length] = check;
-        return all;
-    }
-
     private static boolean on(PorterDoors x, int... bytes) {
         Check.tape(x, bytes);
         return x.on();
@@ -81,7 +71,7 @@ public final class ImageTest {
         x.nights(2);
         Check.tape(x, 1, 1);
         x.see();
-        CHECK.due("P38 taken", on(x, withCheck(3, 229, 1, 2, 3, 1, 99, 9, 0, 2, 0, 99, 7)), true);
+        CHECK.due("P38 taken", on(x, Check.withCheck(3, 229, 1, 2, 3, 1, 99, 9, 0, 2, 0, 99, 7)), true);
         CHECK.due("P38 night", x.has(2), 997);
         CHECK.due("P38 cold", x.has(5), 65536 + 512 + 3);
         CHECK.due("P38 open", x.later(0), 1);
@@ -100,14 +90,14 @@ public final class ImageTest {
         CHECK.due("P31 nights on", x.nights(2), 4);
         CHECK.due("P11 kept anew", x.kept(0, 0), 997);
         CHECK.due("P38 the greatest",
-                on(x, withCheck(3, 231, 15, 66, 63, 1, 99, 9, 1, 99, 9, 99, 99)), true);
+                on(x, Check.withCheck(3, 231, 15, 66, 63, 1, 99, 9, 1, 99, 9, 99, 99)), true);
         CHECK.due("P38 the greatest night", x.has(2), 999);
         CHECK.due("P38 the greatest cold", x.has(5), 999999);
-        CHECK.due("P38 the least", on(x, withCheck(0, 0, 0, 0, 0, 0, 0, 0, 0, 0, 0, 0, 0)), true);
+        CHECK.due("P38 the least", on(x, Check.withCheck(0, 0, 0, 0, 0, 0, 0, 0, 0, 0, 0, 0, 0)), true);
         bytesAre(x, 0, 0, 0, 0, 0, 0, 0, 0, 0, 0, 0, 0, 0);
         PorterDoors y = Check.told("doors 3;porter a turns colour=1;");
         CHECK.due("P10 ahead", y.order(0), 0);
-        CHECK.due("P38 painted otherwise", on(y, withCheck(0, 0, 0, 0, 0, 0, 0, 1, 0, 0, 0, 0, 0, 1, 0)), true);
+        CHECK.due("P38 painted otherwise", on(y, Check.withCheck(0, 0, 0, 0, 0, 0, 0, 1, 0, 0, 0, 0, 0, 1, 0)), true);
         CHECK.due("P10 behind", y.order(0), 5);
         CHECK.due("P12 behind", y.later(1), 5);
     }
@@ -134,18 +124,18 @@ public final class ImageTest {
         x.nights(1);
         int refused = 0;
         for (int[] bytes : wrong) {
-            CHECK.due("P38 wrong image " + refused, on(x, withCheck(bytes)), false);
+            CHECK.due("P38 wrong image " + refused, on(x, Check.withCheck(bytes)), false);
             refused++;
             CHECK.due("P39 refused", x.status(5), refused);
         }
-        int[] right = withCheck(0, 0, 0, 0, 0, 0, 0, 0, 0, 0, 0, 0, 0);
+        int[] right = Check.withCheck(0, 0, 0, 0, 0, 0, 0, 0, 0, 0, 0, 0, 0);
         right[13]++;
         CHECK.due("P38 wrong check", on(x, right), false);
         right[13] -= 2;
         CHECK.due("P38 wrong check, below", on(x, right), false);
         CHECK.due("P38 no tape", on(x), false);
         CHECK.due("P38 all stays", x.has(2) + x.has(9) + x.has(7), 1 + 1 + 2);
-        CHECK.due("P38 without a corridor", on(new PorterDoors(), withCheck(0, 0, 0, 0, 0)), false);
+        CHECK.due("P38 without a corridor", on(new PorterDoors(), Check.withCheck(0, 0, 0, 0, 0)), false);
     }
 
     private static void stays() {
@@ -158,7 +148,7 @@ public final class ImageTest {
         // the seed is in no image: it stays
         PorterDoors y = Check.told("doors 2;porter a turns all;ill 19;");
         y.seed(1103527590);
-        CHECK.due("P38 taken", on(y, withCheck(0, 0, 0, 0, 0, 0, 0, 0, 0, 0, 0, 0)), true);
+        CHECK.due("P38 taken", on(y, Check.withCheck(0, 0, 0, 0, 0, 0, 0, 0, 0, 0, 0, 0)), true);
         PorterDoors z = Check.told("doors 2;porter a turns all;ill 19;");
         z.seed(1103527590);
         for (int k = 0; k < 40; k++) {
