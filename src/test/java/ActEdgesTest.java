@@ -20,8 +20,10 @@ public final class ActEdgesTest {
         draws();
         undoTwenty();
         undoEach();
+        askedAhead();
         undoRefused();
         seed();
+        lastCall();
         CHECK.finish();
     }
 
@@ -387,6 +389,56 @@ public final class ActEdgesTest {
             case 4 -> x.nights(100);
             default -> x.chance(100);
         }
+    }
+
+    /** What was asked ahead of an act is no answer behind it. */
+    private static void askedAhead() {
+        for (int k = 0; k < 10; k++) {
+            PorterDoors x = moved();
+            PorterDoors twin = moved();
+            View.of(x);
+            x.later(60);
+            actOrMore(x, k);
+            actOrMore(twin, k);
+            CHECK.due("II asked ahead of act " + k, View.of(x).equals(View.of(twin)), true);
+            x.undo();
+            twin.undo();
+            CHECK.due("II undone, asked ahead of act " + k, View.of(x).equals(View.of(twin)), true);
+        }
+    }
+
+    private static void actOrMore(PorterDoors x, int which) {
+        switch (which) {
+            case 6 -> x.undo();
+            case 7 -> Check.become(x, 5, 0, 7, 3, 8, 1, 1, 9);
+            case 8 -> Check.see(x, 2, 0);
+            case 9 -> Check.corridor(x, "doors 3;porter b turns number=1;open 0;");
+            default -> act(x, which);
+        }
+    }
+
+    /** "An object is used for at most 512 calls": the 512th is as good as the first. */
+    private static void lastCall() {
+        String text = "doors 24;porter a turns all;porter b turns number/2*2=night;walks tired<9 or who=1;cold open*3;";
+        PorterDoors x = new PorterDoors();
+        int calls = 2 + (text.length() + 19) / 20 + 1;
+        CHECK.due("P4 a corridor", Check.corridor(x, text), 5);
+        PorterDoors fresh = Check.told(text);
+        long rest = fresh.rest(40, 1);
+        long later = fresh.later(60);
+        long widest = fresh.widest(0);
+        while (calls + 5 <= 511) {
+            CHECK.due("P28 turned", x.turn(5), true);
+            CHECK.due("P33 undone", x.undo(), true);
+            CHECK.due("P21 rest, as ever", x.rest(40, 1), rest);
+            CHECK.due("P12 later, as ever", x.later(60), later);
+            CHECK.due("P20 widest, as ever", x.widest(0), widest);
+            calls += 5;
+        }
+        for (; calls < 511; calls++) {
+            CHECK.due("P36 an image", x.image(), 6 + 72 + 2);
+        }
+        CHECK.due("P31 the 512th call", x.nights(100), fresh.nights(100));
     }
 
     private static void undoRefused() {

@@ -20,6 +20,7 @@ public final class HallEdgesTest {
         turnedMost();
         tiredMost();
         byWhatIsSoThen();
+        without();
         coldBounds();
         coldMost();
         ahead();
@@ -101,6 +102,14 @@ public final class HallEdgesTest {
         CHECK.due("P8 door 23", y.door(23, 0) + y.door(23, 4), 2);
         none("P8 door 24", y.door(24, 0));
         none("P8 door 24, the porters", y.door(24, 4));
+        StringBuilder ten = new StringBuilder("doors 24;");
+        for (int k = 0; k < 10; k++) {
+            ten.append("porter ").append((char) ('a' + k)).append(" turns number>").append(k).append(";");
+        }
+        PorterDoors z = Check.told(ten.toString());
+        for (int d = 0; d < 24; d++) {
+            CHECK.due("P8 how many of ten have " + d, z.door(d, 4), Math.min(10, d));
+        }
     }
 
     /** P9: a PORTER 0 .. porters - 1, what 0 .. 2. */
@@ -245,6 +254,15 @@ public final class HallEdgesTest {
             CHECK.due("P27 turned, " + name, x.send(0), 3 - jam[2]);
             CHECK.due("P8 as it was, " + name, x.door(1, 0), 1 - jam[2]);
         }
+        for (int d = 0; d < 24; d++) {
+            PorterDoors x = Check.told("doors 24;stiff 1;paint 0 9;paint 23 9;");
+            CHECK.due("P6 none is jammed", x.has(4), 0);
+            x.turn(d);
+            CHECK.due("P6 one is jammed, " + d, x.has(4), 1);
+            CHECK.due("P8 it is this one, " + d, x.door(d, 3), 1);
+            CHECK.due("P28 the others are not, " + d, x.turn((d + 1) % 24), true);
+            CHECK.due("P6 two are jammed, " + d, x.has(4), 2);
+        }
         PorterDoors none = Check.told("doors 3;");
         CHECK.due("P6 without stiff none is jammed", none.has(4), 0);
         Check.become(none, 6, 99, 9, 99, 12, 99);
@@ -325,6 +343,26 @@ public final class HallEdgesTest {
         PorterDoors z = Check.told("doors 2;porter a turns number=night;cold night*20+open*3+turned;");
         CHECK.due("P13 one", z.cold(1), 4);
         CHECK.due("P13 two", z.cold(2), 4 + 24 + 24);
+    }
+
+    /** I "Without: walks is all, cold is open." */
+    private static void without() {
+        String text = "doors 3;porter a turns number<2;porter b turns number=0;open 2;";
+        PorterDoors told = Check.told(text + "walks all;cold open;");
+        PorterDoors bare = Check.told(text);
+        CHECK.due("P31 all walk", bare.nights(3), 6);
+        CHECK.due("P31 all walk, told", told.nights(3), 6);
+        // 1 and 2 are open, then 2, then 1 and 2
+        CHECK.due("P6 the open ones", bare.has(5), 2 + 1 + 2);
+        CHECK.due("P6 the open ones, told", told.has(5), 5);
+        CHECK.due("P9 each is tired", bare.porter(0, 0) + bare.porter(1, 0), 6);
+        CHECK.due("P9 each walks", bare.porter(0, 2) + bare.porter(1, 2), 2);
+        PorterDoors one = Check.told(text + "walks who=1;");
+        CHECK.due("P31 one alone", one.nights(3), 3);
+        CHECK.due("P6 the open ones by him alone", one.has(5), 2 + 1 + 2);
+        PorterDoors cold = Check.told(text + "cold 1;");
+        CHECK.due("P31 all walk, another cold", cold.nights(3), 6);
+        CHECK.due("P6 another cold", cold.has(5), 9);
     }
 
     /** II "the SUM of cold, 0 .. 99 (below is 0, above 99)". */

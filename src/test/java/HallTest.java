@@ -508,9 +508,11 @@ public final class HallTest {
         PorterDoors x = Check.told("doors 2;porter a turns all;ill 50;");
         CHECK.due("P34 1 at first", draws(x, 0, 1), true);
         for (int seed : new int[] {0, 1, 2, 4711, Integer.MAX_VALUE}) {
+            x = Check.told("doors 2;");
             CHECK.due("P34 seed " + seed, x.seed(seed), true);
             CHECK.due("P34 drawn from " + seed, draws(x, 0, seed), true);
         }
+        x = Check.told("doors 2;");
         x.seed(9);
         CHECK.due("P34 below 0", x.seed(-1), false);
         CHECK.due("P34 least", x.seed(Integer.MIN_VALUE), false);

@@ -190,6 +190,12 @@ public final class SetEdgesTest {
         }
         none("P20 what 2", x.widest(2));
         none("P20 what -1", x.widest(-1));
+        CHECK.due("P20 the first set", Check.told("doors 2;porter a turns all;").widest(0), 1);
+        CHECK.due("P20 the first of two alike",
+                Check.told("doors 2;porter a turns all;porter b turns all;").widest(0), 1);
+        PorterDoors ten = Check.told(each(10, 10));
+        CHECK.due("P20 the last set", ten.widest(0), 1023);
+        CHECK.due("P20 ten open", ten.widest(1), 10);
         CHECK.due("P20 nobody, where nobody does better",
                 Check.told("doors 2;porter a turns number=0;porter b turns not all;open 0;").widest(0), 0);
         CHECK.due("P20 none open", Check.told("doors 2;").widest(1), 0);
@@ -255,6 +261,11 @@ public final class SetEdgesTest {
         PorterDoors z = Check.told("doors 2;porter a turns all;porter b turns not all;walks who=1 or tired=0;");
         CHECK.due("P21 the last one", z.rest(3, 0), 0);
         CHECK.due("P21 nothing is open without a", z.rest(3, 1), 0);
+        CHECK.due("P21 without the first porter", Check.told("doors 2;porter a turns all;porter b turns not all;"
+                + "porter c turns not all;").rest(1, 0), 0);
+        PorterDoors ten = Check.told(each(10, 10) + "cold open*number;");
+        CHECK.due("P21 the tenth", ten.rest(1, 0), 9);
+        CHECK.due("P21 0 .. 8 are open without him", ten.rest(1, 1), 36);
         CHECK.due("P21 without the last porter", Check.told("doors 2;porter a turns not all;porter b turns not all;"
                 + "porter c turns all;").rest(1, 0), 2);
         // who rests has no nights behind him then: it is told by another who looks for open doors
@@ -457,6 +468,9 @@ public final class SetEdgesTest {
         for (int what : BEYOND) {
             none("P26 what " + what, x.tells(what));
         }
+        PorterDoors first = Check.told("doors 2;porter a turns number=0;porter b turns number=1;");
+        CHECK.due("P26 the first door", first.tells(0), 0);
+        CHECK.due("P26 two of four are left", first.tells(1), 2);
         seen(x, 1, 1);
         CHECK.due("P26 then another", x.tells(0), 2);
         CHECK.due("P26 two of four", x.tells(1), 2);

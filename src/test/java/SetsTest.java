@@ -154,9 +154,7 @@ public final class SetsTest {
         t.nights(2);
         CHECK.due("P21 tired behind two", t.porter(0, 0), 2);
         CHECK.due("P21 from now on", t.rest(2, 1), 30);
-        while (t.has(2) < 990) {
-            t.nights(2);
-        }
+        Check.become(t, 0, 3, 1, 222);
         CHECK.due("P21 to night 999", t.rest(9, 0), 0);
         CHECK.due("P21 beyond night 999", t.rest(10, 0), -1);
     }

@@ -33,6 +33,7 @@ public final class TextEdgesTest {
         faultTold();
         faultStays();
         asAtFirst();
+        nothingLeft();
         CHECK.finish();
     }
 
@@ -548,5 +549,38 @@ public final class TextEdgesTest {
         CHECK.due("P4 kept, seen, to be undone", again.has(7) + again.has(8) + again.has(9), 0);
         CHECK.due("P33 nothing to undo", again.undo(), false);
         CHECK.due("P24 nothing seen", again.fits(NONE), 4);
+    }
+
+    /** Nothing of a text ahead, whole or with a fault, is in the next one. */
+    private static void nothingLeft() {
+        String rich = "doors 24;stiff 1;ill 100;walks who>8;cold 99;";
+        for (int d = 0; d < 24; d += 1) {
+            rich += d % 2 == 0 ? "paint " + d + " 9;" : "open " + d + ";";
+        }
+        for (int k = 0; k < 10; k++) {
+            rich += "porter " + (char) ('a' + k) + " turns all;";
+        }
+        for (String end : new String[] {"", "?"}) {
+            for (String text : new String[] {"doors 2;", "doors 24;", "doors 24;porter a turns all and all;",
+                "doors 3;porter b turns not all or all;porter c turns not not all;walks all;"}) {
+                PorterDoors x = new PorterDoors();
+                CHECK.due("P4 rich", Check.corridor(x, rich + end), end.isEmpty() ? 39 : NONE);
+                CHECK.due("P4 " + text, Check.corridor(x, text), text.split(";").length);
+                PorterDoors fresh = Check.told(text);
+                CHECK.due("P4 as without it, " + text, View.of(x).equals(View.of(fresh)), true);
+                for (int p = 0; p < 10; p++) {
+                    CHECK.due("P35 by " + p + ", " + text, Check.ask(x, "total by " + p), Check.ask(fresh, "total by " + p));
+                }
+                for (int d = 0; d < 24; d++) {
+                    CHECK.due("P8 paint, " + text, x.door(d, 1), fresh.door(d, 1));
+                    CHECK.due("P8 open, " + text, x.door(d, 0), fresh.door(d, 0));
+                    CHECK.due("P8 porters, " + text, x.door(d, 4), fresh.door(d, 4));
+                }
+                CHECK.due("P31 nights, " + text, x.nights(2), fresh.nights(2));
+                CHECK.due("P32 nobody is ill, " + text, x.chance(9), 0);
+                CHECK.due("P6 no stiff, " + text, x.has(6) + x.has(4), 0);
+                CHECK.due("P4 rich again", Check.corridor(x, rich + end), end.isEmpty() ? 39 : NONE);
+            }
+        }
     }
 }
