@@ -45,11 +45,8 @@ public final class ActEdgesTest {
     /** P27 "how many DOORS he TURNED; NONE, refused (2), when there is none such". */
     private static void send() {
         for (int porters : new int[] {1, 2, 10}) {
-            StringBuilder text = new StringBuilder("doors 24;");
-            for (int k = 0; k < porters; k++) {
-                text.append("porter ").append((char) ('a' + k)).append(" turns number<").append(k).append(";");
-            }
-            PorterDoors x = Check.told(text.toString());
+            String text = Check.porters(24, porters, "number<#");
+            PorterDoors x = Check.told(text);
             CHECK.due("P27 the first of " + porters, x.send(0), 0);
             CHECK.due("P27 the last of " + porters, x.send(porters - 1), porters - 1);
             CHECK.due("P27 one behind " + porters, x.send(porters), NONE);
@@ -251,10 +248,7 @@ public final class ActEdgesTest {
     /** II "a DRAW of these: that one does not walk in it (he is tired by 0)". */
     private static void whoIsIll() {
         for (int porters = 1; porters <= 10; porters++) {
-            StringBuilder text = new StringBuilder("doors 10;");
-            for (int k = 0; k < porters; k++) {
-                text.append("porter ").append((char) ('a' + k)).append(" turns number=").append(k).append(";");
-            }
+            String text = Check.porters(10, porters, "number=#");
             for (int seed = 0; seed < 12; seed++) {
                 PorterDoors x = Check.told(text + "ill 100;");
                 x.seed(seed * 1000003);
@@ -279,10 +273,7 @@ public final class ActEdgesTest {
     private static void draws() {
         for (int ill : new int[] {0, 50, 100}) {
             for (int porters = 0; porters <= 3; porters++) {
-                StringBuilder text = new StringBuilder("doors 4;");
-                for (int k = 0; k < porters; k++) {
-                    text.append("porter ").append((char) ('a' + k)).append(" turns number=").append(k).append(";");
-                }
+                String text = Check.porters(4, porters, "number=#");
                 PorterDoors x = Check.told(text + "ill " + ill + ";");
                 long seed = 1;
                 int count = 0;

@@ -67,11 +67,8 @@ public final class AskEdgesTest {
     /** IV "1 if it is of the ORDER of the PORTER of that number, else 0". */
     private static void byPorters() {
         for (int porters : new int[] {0, 1, 2, 9, 10}) {
-            StringBuilder text = new StringBuilder("doors 24;");
-            for (int k = 0; k < porters; k++) {
-                text.append("porter ").append((char) ('a' + k)).append(" turns number>").append(22 - k).append(";");
-            }
-            PorterDoors x = Check.told(text.toString());
+            String text = Check.porters(24, porters, "number>22-#");
+            PorterDoors x = Check.told(text);
             for (int p = 0; p <= 11; p++) {
                 is(x, "total by " + p, p < porters ? p + 1 : 0);
             }
@@ -89,6 +86,12 @@ public final class AskEdgesTest {
         is(x, "total by 1+1", 5);
         is(x, "total by (1+0)", 1);
         is(x, "total by near 0", 1 + 1 + 1);
+        // a porter of the corridor ahead is none of this one
+        PorterDoors gone = Check.told("doors 2;porter a turns all;porter b turns all;");
+        is(gone, "total by 1", 2);
+        Check.corridor(gone, "doors 2;porter a turns all and all;");
+        is(gone, "total by 0", 2);
+        is(gone, "total by 1", 0);
         // the order as it is now
         PorterDoors y = Check.told("doors 3;porter a turns colour=1 or night=1;");
         is(y, "total by 0", 0);

@@ -112,6 +112,16 @@ final class Check {
         return x.ask();
     }
 
+    /** So many porters, a, b, c .., each of whom turns by this test; # in it is his number. */
+    static String porters(int doors, int many, String test) {
+        StringBuilder text = new StringBuilder("doors " + doors + ";");
+        for (int k = 0; k < many; k++) {
+            text.append("porter ").append((char) ('a' + k)).append(" turns ")
+                    .append(test.replace("#", "" + k)).append(";");
+        }
+        return text.toString();
+    }
+
     /** A text is no corridor: its fault and the place are due. */
     void fault(String text, int what, int where) {
         PorterDoors x = new PorterDoors();

@@ -102,11 +102,8 @@ public final class HallEdgesTest {
         CHECK.due("P8 door 23", y.door(23, 0) + y.door(23, 4), 2);
         none("P8 door 24", y.door(24, 0));
         none("P8 door 24, the porters", y.door(24, 4));
-        StringBuilder ten = new StringBuilder("doors 24;");
-        for (int k = 0; k < 10; k++) {
-            ten.append("porter ").append((char) ('a' + k)).append(" turns number>").append(k).append(";");
-        }
-        PorterDoors z = Check.told(ten.toString());
+        String ten = Check.porters(24, 10, "number>#");
+        PorterDoors z = Check.told(ten);
         for (int d = 0; d < 24; d++) {
             CHECK.due("P8 how many of ten have " + d, z.door(d, 4), Math.min(10, d));
         }
@@ -220,11 +217,8 @@ public final class HallEdgesTest {
     }
 
     private static void keptByTen() {
-        StringBuilder text = new StringBuilder("doors 24;");
-        for (int k = 0; k < 10; k++) {
-            text.append("porter ").append((char) ('a' + k)).append(" turns number<24-").append(k).append(";");
-        }
-        PorterDoors x = Check.told(text.toString());
+        String text = Check.porters(24, 10, "number<24-#");
+        PorterDoors x = Check.told(text);
         CHECK.due("P31 four nights of ten", x.nights(4), 40);
         CHECK.due("P11 the first of 40", x.kept(0, 0) * 100 + x.kept(0, 1), 0);
         CHECK.due("P11 all doors", x.kept(0, 2), 24);

@@ -22,11 +22,7 @@ public final class ImageEdgesTest {
     }
 
     private static PorterDoors told(int doors, int porters) {
-        StringBuilder text = new StringBuilder("doors " + doors + ";");
-        for (int k = 0; k < porters; k++) {
-            text.append("porter ").append((char) ('a' + k)).append(" turns number=").append(k).append(";");
-        }
-        return Check.told(text.toString());
+        return Check.told(Check.porters(doors, porters, "number=#"));
     }
 
     /** P36 "how many bytes (ahead of a corridor 6, all 0 but the last)". */

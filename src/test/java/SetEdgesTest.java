@@ -31,11 +31,7 @@ public final class SetEdgesTest {
 
     /** So many porters, each of whom turns the door of his number. */
     private static String each(int doors, int porters) {
-        StringBuilder text = new StringBuilder("doors " + doors + ";");
-        for (int k = 0; k < porters; k++) {
-            text.append("porter ").append((char) ('a' + k)).append(" turns number=").append(k).append(";");
-        }
-        return text.toString();
+        return Check.porters(doors, porters, "number=#");
     }
 
     /** P15: from no open door to all of them, at both ends. */
@@ -148,7 +144,7 @@ public final class SetEdgesTest {
         CHECK.due("P18 three alike",
                 Check.told("doors 2;porter a turns all;porter b turns all;porter c turns all;").alike(), 4);
         CHECK.due("P18 ten unlike", Check.told(each(10, 10)).alike(), 1);
-        CHECK.due("P18 ten who turn none", Check.told(each(10, 10).replace("=", ">9+0*")).alike(), 1024);
+        CHECK.due("P18 ten who turn none", Check.told(Check.porters(10, 10, "number>9+#")).alike(), 1024);
         PorterDoors last = Check.told("doors 24;porter a turns number=23;porter b turns number=22;");
         CHECK.due("P18 the last door counts", last.alike(), 1);
         none("P18 without a corridor", new PorterDoors().alike());
@@ -263,6 +259,9 @@ public final class SetEdgesTest {
         CHECK.due("P21 nothing is open without a", z.rest(3, 1), 0);
         CHECK.due("P21 without the first porter", Check.told("doors 2;porter a turns all;porter b turns not all;"
                 + "porter c turns not all;").rest(1, 0), 0);
+        PorterDoors shuts = Check.told("doors 2;porter a turns all;open 0;open 1;");
+        CHECK.due("P21 somebody rests, though nobody had better", shuts.rest(1, 0), 0);
+        CHECK.due("P21 without him it is colder", shuts.rest(1, 1), 2);
         PorterDoors ten = Check.told(each(10, 10) + "cold open*number;");
         CHECK.due("P21 the tenth", ten.rest(1, 0), 9);
         CHECK.due("P21 0 .. 8 are open without him", ten.rest(1, 1), 36);

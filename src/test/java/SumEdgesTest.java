@@ -18,6 +18,7 @@ public final class SumEdgesTest {
         wordsByPlace();
         worths();
         sixDeep();
+        sixDeepWorth();
         seventh();
         closed();
         byAndNearDeep();
@@ -283,10 +284,7 @@ public final class SumEdgesTest {
     }
 
     private static void inWalks() {
-        StringBuilder text = new StringBuilder("doors 24;");
-        for (int k = 0; k < 10; k++) {
-            text.append("porter ").append((char) ('a' + k)).append(" turns not all;");
-        }
+        String text = Check.porters(24, 10, "not all");
         PorterDoors x = Check.told(text + "walks who=9 or tired=99 or opened=24 or night=999;");
         willing(x, "the last one alone", 1 << 9);
         Check.become(x, 5 + 72, 99, 5 + 73, 98);
@@ -340,6 +338,27 @@ public final class SumEdgesTest {
             CHECK.taken("doors 3;walks " + "not ".repeat(n) + "1=" + "max(1,".repeat(6 - n) + "1"
                     + ")".repeat(6 - n) + ";", 2);
         }
+    }
+
+    /** Six deep, with as much as can wait on each level: all of it counts. */
+    private static void sixDeepWorth() {
+        String sum = "1";
+        for (int k = 1; k <= 6; k++) {
+            is("9-1*min(9," + sum + ")", 9 - k);
+            sum = "1+1*max(0," + sum + ")";
+            is(sum, k + 1);
+        }
+        CHECK.due("P10 six deep behind all that waits",
+                Check.told("doors 3;porter a turns not all or all and number*3=number+" + sum + "-5;").order(0), 2);
+        CHECK.due("P13 six deep", Check.told("doors 3;cold " + sum + ";").cold(1), 21);
+        String test = "number=1";
+        for (int k = 1; k <= 6; k++) {
+            test = "not all or all and [" + test + "]";
+        }
+        CHECK.due("P10 six tests deep", Check.told("doors 3;porter a turns " + test + ";").order(0), 2);
+        CHECK.due("P35 six tests deep", Check.ask(Check.told("doors 3;"), "first " + test), 1);
+        CHECK.due("P35 six nots, open", Check.ask(Check.told("doors 3;"), "first not not not not not not number=2"), 2);
+        CHECK.due("P35 five nots", Check.ask(Check.told("doors 3;"), "first not not not not not number=0"), 1);
     }
 
     /** "at it": behind six of any kinds the seventh of each kind, at its own byte. */

@@ -40,6 +40,10 @@ public final class TapeEdgesTest {
             CHECK.due("P1 tells " + k, x.tells(k), NONE);
             CHECK.due("P1 octet " + k, x.octet(k), NONE);
         }
+        for (int k = 0; k <= 9; k++) {
+            CHECK.due("P1 there is none of it, has " + k, x.has(k), 0);
+        }
+        CHECK.due("P1 has 10", x.has(10), NONE);
         CHECK.due("P1 back", x.back(), NONE);
         CHECK.due("P1 row", x.row(), NONE);
         CHECK.due("P1 alike", x.alike(), NONE);

@@ -96,11 +96,7 @@ public final class TextEdgesTest {
     }
 
     private static String porters(int n) {
-        StringBuilder text = new StringBuilder("doors 2;");
-        for (int k = 0; k < n; k++) {
-            text.append("porter ").append((char) ('a' + k)).append(" turns all;");
-        }
-        return text.toString();
+        return Check.porters(2, n, "all");
     }
 
     /** I "porter NAME turns TEST (10 PORTERS)"; "5 one too many of a kind ..., at its first byte". */
@@ -553,12 +549,9 @@ public final class TextEdgesTest {
 
     /** Nothing of a text ahead, whole or with a fault, is in the next one. */
     private static void nothingLeft() {
-        String rich = "doors 24;stiff 1;ill 100;walks who>8;cold 99;";
-        for (int d = 0; d < 24; d += 1) {
+        String rich = Check.porters(24, 10, "all") + "stiff 1;ill 100;walks who>8;cold 99;";
+        for (int d = 0; d < 24; d++) {
             rich += d % 2 == 0 ? "paint " + d + " 9;" : "open " + d + ";";
-        }
-        for (int k = 0; k < 10; k++) {
-            rich += "porter " + (char) ('a' + k) + " turns all;";
         }
         for (String end : new String[] {"", "?"}) {
             for (String text : new String[] {"doors 2;", "doors 24;", "doors 24;porter a turns all and all;",
