@@ -17,7 +17,7 @@ public final class StaysTest {
     private static final int NONE = PorterDoors.NONE;
     private static final String QUESTION = "total number*number+9";
     private static final String RICH = "doors 4;porter ann turns number<2 or night=3;porter b turns colour=2;open 1;"
-            + "paint 2 2;stiff 5;ill 40;walks tired<2 or who=0;cold open*7+turned+night;";
+            + "paint 2 2;stiff 5;ill 7;walks tired<2 or who=0;cold open*7+turned+night;";
     private static final String STEADY = "doors 4;porter c turns number<2;porter dd turns number>1;open 1;ill 40;";
     private static final int[] IMAGE = Check.withCheck(0, 2, 0, 1, 7, 1, 3, 2, 0, 0, 0, 1, 4, 9, 0, 2, 2, 1, 5);
     private static final Set<String> HALL = Set.of("night", "cold", "open", "turned", "paint", "tired", "kept");
@@ -357,10 +357,22 @@ public final class StaysTest {
                 stays("P32 chance refused, " + maker, made(maker), x -> x.chance(n), "refused 3");
             }
         }
+        keptBefore("P31 nights", x -> x.nights(3));
+        keptBefore("P32 chance", x -> x.chance(3));
         for (String maker : new String[] {"last night", "bare"}) {
             stays("P31 nights refused, " + maker, made(maker), x -> x.nights(1), "refused 3");
             stays("P32 chance refused, " + maker, made(maker), x -> x.chance(1), "refused 3");
         }
+    }
+
+    /** Who walks in the nights is kept behind those that were kept before. */
+    private static void keptBefore(String name, ToLongFunction<PorterDoors> call) {
+        PorterDoors x = Check.told(STEADY);
+        call.applyAsLong(x);
+        String before = kept(x).replaceFirst("\\d+:", "");
+        call.applyAsLong(x);
+        String behind = kept(x).replaceFirst("\\d+:", "");
+        CHECK.due(name + " leaves what is kept: " + before + ", then " + behind, behind.startsWith(before), true);
     }
 
     private static void undone() {
@@ -384,6 +396,18 @@ public final class StaysTest {
             return x;
         };
         stays("P33 undo refused, with a corridor", none, x -> x.undo() ? 1 : 0, "refused 4");
+        // what is kept by an act that can't be undone any more stays
+        stays("P33 undo refused, behind 21 acts", () -> {
+            PorterDoors x = Check.told(STEADY);
+            x.nights(3);
+            for (int k = 0; k < 20; k++) {
+                x.turn(k % 4);
+            }
+            for (int k = 0; k < 20; k++) {
+                x.undo();
+            }
+            return x;
+        }, x -> x.undo() ? 1 : 0, "refused 4");
         // an act and its undoing: as it was, and what was drawn is drawn
         stays("P33 nights undone", made("rich"), x -> x.nights(9) + (x.undo() ? 1 : 0));
         stays("P33 chance undone", made("rich"), x -> x.chance(9) + (x.undo() ? 1 : 0), "seed");
